@@ -9,29 +9,41 @@ public final class LongRunsTest {
     private final Model model = new Model();
     private final Numbers numbers;
     private final int run;
+    private final Seen seen;
     private final StringBuilder told = new StringBuilder();
     private int calls;
     private int parts;
     private boolean wrong;
 
-    private LongRunsTest(int run) {
+    /** How often each call answered, or threw each exception, and how often a train was barred, or broke. */
+    private static final class Seen {
+        final long[][] answers = new long[Calls.MANY][4];
+        final long[] bars = new long[8];
+        long breaks;
+    }
+
+    private LongRunsTest(int run, Seen seen) {
         this.run = run;
+        this.seen = seen;
         this.numbers = new Numbers(run);
     }
 
     public static void main(String[] args) {
-        long[][] answers = new long[Calls.MANY][4];
+        Seen seen = new Seen();
         for (int run = 0; run < RUNS && !check.hasFailed(); run++) {
-            new LongRunsTest(run).play(answers);
+            new LongRunsTest(run, seen).play();
         }
         for (int call = 0; call < Calls.MANY; call++) {
-            check.due(Calls.NAMES[call] + " answered in some run", answers[call][3] > 0, true);
+            check.due(Calls.NAMES[call] + " answered in some run", seen.answers[call][3] > 0, true);
         }
+        for (int bar = 0; bar < seen.bars.length; bar++) {
+            check.due("a release told " + bar + " in many runs", seen.bars[bar] > 100, true);
+        }
+        check.due("trains broke in many runs", seen.breaks > 100, true);
         check.end();
     }
 
-    private void play(long[][] answers) {
-        this.answers = answers;
+    private void play() {
         int trains = numbers.below(3);
         for (int i = 0; i < trains; i++) {
             train();
@@ -41,12 +53,12 @@ public final class LongRunsTest {
                 call(Calls.PART, WheelWorks.TRAIN, 0, 0, 0);
             }
         }
+        // Some runs are left alone with few changes, so that trains get old.
+        int changes = numbers.oneIn(2) ? 12 : 7;
         while (calls < CALLS && !wrong) {
-            step();
+            step(changes);
         }
     }
-
-    private long[][] answers;
 
     private long call(int call, int a, int b, int c, int d) {
         if (calls >= CALLS || wrong) {
@@ -57,7 +69,7 @@ public final class LongRunsTest {
         long got = real.call(call, a, b, c, d);
         told.append(Calls.NAMES[call]).append(' ').append(a).append(' ').append(b).append(' ').append(c)
             .append(' ').append(d).append(" = ").append(got).append('\n');
-        answers[call][got < Calls.OTHER ? (int) (got - Calls.INDEX) : 3]++;
+        note(call, got);
         check.due("run " + run + ", " + Calls.NAMES[call] + "(" + a + ", " + b + ", " + c + ", " + d + ")", got, want);
         if (got != want) {
             wrong = true;
@@ -67,6 +79,16 @@ public final class LongRunsTest {
             parts++;
         }
         return got;
+    }
+
+    private void note(int call, long got) {
+        seen.answers[call][got < Calls.OTHER ? (int) (got - Calls.INDEX) : 3]++;
+        if (call == Calls.RELEASE && got >= 0 && got < seen.bars.length) {
+            seen.bars[(int) got]++;
+        }
+        if (call == Calls.RUN && got >= 0) {
+            seen.breaks++;
+        }
     }
 
     private void train() {
@@ -109,25 +131,29 @@ public final class LongRunsTest {
         return numbers.oneIn(12) ? (numbers.oneIn(2) ? least - 1 : most + 1) : numbers.between(least, most);
     }
 
-    private void step() {
-        switch (numbers.below(12)) {
+    private void step(int kinds) {
+        switch (numbers.below(kinds)) {
             case 0:
             case 1:
-                anyCall();
-                break;
             case 2:
-            case 3:
-            case 4:
                 ride();
                 break;
+            case 3:
+            case 4:
             case 5:
-            case 6:
                 mend();
                 break;
+            case 6:
+                tell();
+                break;
             case 7:
+            case 8:
+                anyCall();
+                break;
+            case 9:
                 change();
                 break;
-            case 8:
+            case 10:
                 evening();
                 break;
             default:
@@ -187,6 +213,12 @@ public final class LongRunsTest {
         call(Calls.RELEASE, train, 0, 0, 0);
         if (numbers.oneIn(6)) {
             anyCall();
+        }
+        if (numbers.oneIn(6)) {
+            call(Calls.FLAW, anyOf(numbers.between(3, 4)), numbers.between(50, 99), 0, 0);
+        }
+        if (numbers.oneIn(12)) {
+            call(Calls.LIMITS, within(0, 4), limit(), limit(), limit());
         }
         int kilometres = numbers.oneIn(2) ? within(1, 2000) : 100 * numbers.between(1, 20);
         call(Calls.RUN, train, kilometres, within(0, 3), 0);

@@ -13,6 +13,7 @@ public final class ReleaseTest {
         apartInBogie();
         apartInCoach();
         apartTheLowest();
+        apartByPartZero();
         examinationDue();
         firstOfAllBars();
         onlyItsOwnTree();
@@ -214,6 +215,19 @@ public final class ReleaseTest {
         check.due("a bogie below its coach", bogie < coach, true);
         check.due("bogie and coach", y.bars(train), 6);
         check.due("the lower one", y.barredBy(train), bogie);
+    }
+
+    /** The wheelset by which a bogie is apart is part 0. */
+    private static void apartByPartZero() {
+        WheelWorks x = new WheelWorks();
+        int spare = x.part(WheelWorks.WHEELSET, 0, 0);
+        int train = Build.train(x, 0);
+        Build.ride(x, train, 2000, 0);
+        Build.ride(x, train, 100, 0);
+        int bogie = x.take(4);
+        x.fit(spare, bogie);
+        check.due("apart by 21", x.bars(train), 6);
+        check.due("the bogie", x.barredBy(train), bogie);
     }
 
     private static void examinationDue() {

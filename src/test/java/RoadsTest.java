@@ -15,6 +15,7 @@ public final class RoadsTest {
         roadThrows();
         noneWait();
         fourOnARoad();
+        roomIsNeeded();
         lowerRoadsFirst();
         planAsIfNoTrainStood();
         allPlansAsByTheirWords();
@@ -113,11 +114,11 @@ public final class RoadsTest {
 
     /** All times rise, so that the order on the roads costs the most. */
     private static WheelWorks rising(int many) {
-        WheelWorks x = Build.trains(many);
+        int[] times = new int[many];
         for (int i = 0; i < many; i++) {
-            x.comes(i, 10 * i);
+            times[i] = 10 * i;
         }
-        return x;
+        return evening(times);
     }
 
     private static void trainsCloseUp() {
@@ -185,12 +186,33 @@ public final class RoadsTest {
         }
     }
 
-    private static void lowerRoadsFirst() {
-        WheelWorks x = Build.trains(4);
-        int[] times = {50, 60, 40, 45};
-        for (int i = 0; i < 4; i++) {
+    /** Six fall and two are above all, so that a longer road would spare a move. */
+    private static void roomIsNeeded() {
+        WheelWorks x = evening(60, 50, 40, 30, 20, 10, 80, 90);
+        check.due("planAnew, asked first", x.planAnew(), 1);
+        check.due("plan", x.plan(), 1);
+        check.due("night", x.night(), 1);
+        check.due("four on road 0", x.road(0, 3), 3);
+        check.due("two on road 1", x.road(1, 1), 5);
+        check.due("80 on road 2", x.road(2, 0), 6);
+        check.due("90 in front of it", x.road(2, 1), 7);
+        check.due("planAnew of five that fall, and two", evening(50, 40, 30, 20, 10, 80, 90).planAnew(), 1);
+        check.due("plan of five that fall, and two", evening(50, 40, 30, 20, 10, 80, 90).plan(), 1);
+        check.due("planAnew of a new evening", evening(10, 20, 30, 40).planAnew(), 1);
+        check.due("plan of a new evening", evening(10, 20, 30, 40).plan(), 1);
+        check.due("night of a new evening", evening(10, 20, 30, 40).night(), 1);
+    }
+
+    private static WheelWorks evening(int... times) {
+        WheelWorks x = Build.trains(times.length);
+        for (int i = 0; i < times.length; i++) {
             x.comes(i, times[i]);
         }
+        return x;
+    }
+
+    private static void lowerRoadsFirst() {
+        WheelWorks x = evening(50, 60, 40, 45);
         check.due("night", x.night(), 0);
         check.due("50 on road 0", x.road(0, 0), 0);
         check.due("60 on road 1", x.road(1, 0), 1);
@@ -221,7 +243,6 @@ public final class RoadsTest {
         Numbers numbers = new Numbers(7);
         for (int round = 0; round < 150; round++) {
             int many = 1 + numbers.below(8);
-            WheelWorks x = Build.trains(many);
             int[] times = new int[many];
             for (int i = 0; i < many; i++) {
                 times[i] = i * 12 + numbers.below(12);
@@ -230,9 +251,7 @@ public final class RoadsTest {
                 times[other] = times[i];
                 times[i] = time;
             }
-            for (int i = 0; i < many; i++) {
-                x.comes(i, times[i]);
-            }
+            WheelWorks x = evening(times);
             int[] roads = Parking.best(times);
             int moves = Parking.moves(times, roads);
             check.due("plan", x.plan(), moves);

@@ -150,6 +150,21 @@ public final class RunsTest {
         check.due("turned again", x.turn(2), 0);
         int store = Build.bogie(x, 0);
         check.due("a bogie in the store", x.turn(store), 0);
+        turnTheGreaterOneDown();
+    }
+
+    /** The greater diameter is that of the wheelset with the lower number, and that is part 0. */
+    private static void turnTheGreaterOneDown() {
+        WheelWorks x = new WheelWorks();
+        int spare = x.part(WheelWorks.WHEELSET, 0, 0);
+        int train = Build.train(x, 0);
+        int bogie = x.host(5);
+        Build.ride(x, train, 100, 0);
+        x.take(5);
+        x.fit(spare, bogie);
+        check.due("9000 and 8999", x.turn(bogie), 1);
+        check.due("the greater one", x.wheel(spare, 0), 8999);
+        check.due("the lesser one", x.wheel(4, 0), 8999);
     }
 
     private static void turnThrows() {
@@ -290,8 +305,32 @@ public final class RunsTest {
         x.take(4);
         x.scrap(4);
         due(x, 4, 100);
+        lifeOfPartZero();
         check.throwing("lifeAnew of none", Check.INDEX, () -> x.lifeAnew(60));
         check.throwing("lifeAnew of -1", Check.INDEX, () -> x.lifeAnew(-1));
+    }
+
+    /** Part 0 is no train here, and is asked again when it has moved on. */
+    private static void lifeOfPartZero() {
+        WheelWorks x = new WheelWorks();
+        int motor = x.part(WheelWorks.MOTOR, 0, 0);
+        int train = Build.train(x, 0);
+        Build.ride(x, train, 10, 0);
+        due(x, motor, 0);
+        x.take(6);
+        x.fit(motor, 3);
+        Build.ride(x, train, 20, 0);
+        due(x, motor, 20);
+        due(x, motor, 20);
+        due(x, 6, 10);
+        x.take(motor);
+        x.fit(6, 3);
+        Build.ride(x, train, 40, 0);
+        due(x, motor, 20);
+        due(x, 6, 50);
+        x.scrap(motor);
+        due(x, motor, 20);
+        due(x, motor, 20);
     }
 
     private static void due(WheelWorks x, int part, int life) {

@@ -12,6 +12,7 @@ public final class WorkTest {
         flawThrows();
         flawGrows();
         flawGrowsSinceTold();
+        flawGrowsRunByRun();
         breaks();
         breaksManyAndTheLowestIsTold();
         lookBySound();
@@ -191,6 +192,18 @@ public final class WorkTest {
         check.due("1, 2, 3, 4, 5", x.flaw(3, 1), 5);
     }
 
+    private static void flawGrowsRunByRun() {
+        int[] due = {20, 23, 26, 29, 32, 36};
+        for (int runs = 0; runs < due.length; runs++) {
+            WheelWorks x = Build.fullTrain();
+            x.flaw(3, 20);
+            for (int i = 0; i < runs; i++) {
+                Build.ride(x, 0, 500, 0);
+            }
+            check.due("500 kilometres " + runs + " times", x.flaw(3, 1), due[runs]);
+        }
+    }
+
     private static void breaks() {
         WheelWorks x = Build.fullTrain();
         int spare = x.part(WheelWorks.MOTOR, 0, 0);
@@ -217,6 +230,10 @@ public final class WorkTest {
         check.due("89 and 9", Build.ride(y, 0, 999, 0), WheelWorks.NONE);
         check.due("98", y.look(16, false), 98);
         check.due("it alone is quarantined", y.ofPart(15, 6), 0);
+        WheelWorks z = Build.fullTrain();
+        z.flaw(16, 99);
+        check.due("99 that has not grown", Build.ride(z, 0, 499, 0), WheelWorks.NONE);
+        check.due("99 that grows", Build.ride(z, 0, 1, 0), 16);
     }
 
     private static void breaksManyAndTheLowestIsTold() {
