@@ -3,6 +3,8 @@ final class Build {
     /** A full train has so many parts, numbered from the train on in the order of {@link #train}. */
     static final int PARTS_OF_TRAIN = 19;
 
+    static final int[] BOGIES_OF_TRAIN = {2, 6, 11, 15};
+
     private Build() {
     }
 
@@ -64,6 +66,104 @@ final class Build {
         WheelWorks works = new WheelWorks();
         for (int i = 0; i < many; i++) {
             works.part(WheelWorks.TRAIN, 0, 0);
+        }
+        return works;
+    }
+
+    /** As many parts as go, all of them motors of melt 7. */
+    static WheelWorks sixty() {
+        WheelWorks works = new WheelWorks();
+        for (int i = 0; i < 60; i++) {
+            works.part(WheelWorks.MOTOR, 7, 0);
+        }
+        return works;
+    }
+
+    /** A full train, released, that waits for the night. */
+    static WheelWorks waiting() {
+        WheelWorks works = fullTrain();
+        works.release(0);
+        works.comes(0, 50);
+        return works;
+    }
+
+    /** A full train, released, that stands on road 0. */
+    static WheelWorks onRoad() {
+        WheelWorks works = waiting();
+        works.night();
+        return works;
+    }
+
+    /** A full train, released, that stood on a road. */
+    static WheelWorks outAgain() {
+        WheelWorks works = onRoad();
+        works.out();
+        return works;
+    }
+
+    /** A full train of which wheelset 3 broke, so that all its parts are quarantined. */
+    static WheelWorks broken() {
+        WheelWorks works = fullTrain();
+        works.flaw(3, 99);
+        ride(works, 0, 500, 0);
+        return works;
+    }
+
+    /** One of each kind, of which the wheelset 3 and the motor 4 are quarantined, with flaws of 20. */
+    static WheelWorks quarantined() {
+        WheelWorks works = oneOfEach();
+        for (int part = WheelWorks.WHEELSET; part <= WheelWorks.MOTOR; part++) {
+            works.flaw(part, 20);
+            works.look(part, false);
+        }
+        return works;
+    }
+
+    /** One of each kind, all scrapped. */
+    static WheelWorks scrapped() {
+        WheelWorks works = oneOfEach();
+        for (int part = WheelWorks.TRAIN; part <= WheelWorks.MOTOR; part++) {
+            works.scrap(part);
+        }
+        return works;
+    }
+
+    /** Trains that wait, numbered from 0 in the order in which they came, with these times. */
+    static WheelWorks evening(int... times) {
+        WheelWorks works = trains(times.length);
+        for (int i = 0; i < times.length; i++) {
+            works.comes(i, times[i]);
+        }
+        return works;
+    }
+
+    static void turnAll(WheelWorks works) {
+        for (int bogie : BOGIES_OF_TRAIN) {
+            works.turn(bogie);
+        }
+    }
+
+    /** Puts a new wheelset into the place of one, and answers it. */
+    static int change(WheelWorks works, int wheelset) {
+        int bogie = works.take(wheelset);
+        int anew = works.part(WheelWorks.WHEELSET, WheelWorks.WHEELSET, 0);
+        works.fit(anew, bogie);
+        return anew;
+    }
+
+    /** A full train behind 98000 kilometres, with its fourth wheelsets since 8000; by some 230 calls. */
+    static WheelWorks aged() {
+        WheelWorks works = fullTrain();
+        int[] wheelsets = {3, 4, 7, 8, 12, 13, 16, 17};
+        for (int thousands = 2; thousands <= 98; thousands += 2) {
+            ride(works, 0, 2000, 0);
+            if (thousands % 30 == 0) {
+                for (int i = 0; i < wheelsets.length; i++) {
+                    wheelsets[i] = change(works, wheelsets[i]);
+                }
+            } else if (thousands % 10 == 0) {
+                turnAll(works);
+            }
         }
         return works;
     }

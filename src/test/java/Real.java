@@ -11,6 +11,9 @@ final class Real implements Calls {
         try {
             return call <= RELEASE ? work(call, a, b, c, d) : tell(call, a, b, c);
         } catch (RuntimeException e) {
+            if (!Check.isOwn(e)) {
+                return OTHER;
+            }
             if (e.getClass() == IndexOutOfBoundsException.class) {
                 return INDEX;
             }
