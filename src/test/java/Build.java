@@ -79,10 +79,15 @@ final class Build {
         return works;
     }
 
-    /** A full train, released, that waits for the night. */
-    static WheelWorks waiting() {
+    static WheelWorks released() {
         WheelWorks works = fullTrain();
         works.release(0);
+        return works;
+    }
+
+    /** A full train, released, that waits for the night. */
+    static WheelWorks waiting() {
+        WheelWorks works = released();
         works.comes(0, 50);
         return works;
     }
@@ -99,6 +104,20 @@ final class Build {
         WheelWorks works = onRoad();
         works.out();
         return works;
+    }
+
+    /** Parks train 0. */
+    static void park(WheelWorks works) {
+        works.comes(0, 50);
+        works.night();
+    }
+
+    /** Of one of each kind, fits the wheelset into the bogie, that into the coach, that into the train, and parks it. */
+    static void parkOneOfEach(WheelWorks works) {
+        works.fit(1, 0);
+        works.fit(2, 1);
+        works.fit(3, 2);
+        park(works);
     }
 
     /** A full train of which wheelset 3 broke, so that all its parts are quarantined. */

@@ -136,7 +136,7 @@ final class Check {
     /** A call that takes a part is refused for the numbers before the first part and behind the last one. */
     void noSuchPart(World world, ActBy call) {
         int parts = Told.partsOf(world.make());
-        for (int part : new int[] {-1, parts, parts + 1, 60, WheelWorks.SCRAPPED, Integer.MIN_VALUE, Integer.MAX_VALUE}) {
+        for (int part : new int[] {-1, -2, parts, parts + 1, 60, Integer.MIN_VALUE, Integer.MAX_VALUE}) {
             refused("part " + part + " of " + parts, INDEX, world, x -> call.on(x, part));
         }
     }

@@ -23,14 +23,6 @@ public final class ExaminationTest {
         return x;
     }
 
-    private static void park(WheelWorks x) {
-        x.fit(1, 0);
-        x.fit(2, 1);
-        x.fit(3, 2);
-        x.comes(0, 0);
-        x.night();
-    }
-
     // ---- promise 10: examine
 
     @Says(promise = 10, value = "Returns the kilometres since the latest examination.")
@@ -125,8 +117,8 @@ public final class ExaminationTest {
     static void anExaminationThatIsNotPossibleChangesNothing() {
         check.refused("one kilometre short, and some waived", Check.STATE, () -> bogiesBehind(9, 10, 0),
             x -> x.waive(2, 7), x -> x.examine(2));
-        check.refused("as waived, one short of the interval", Check.STATE, () -> bogiesBehind(9, 10, 0), x -> x.waive(2, 1),
-            x -> x.examine(2));
+        check.refused("as waived, one short of the interval", Check.STATE, () -> bogiesBehind(9, 10, 0),
+            x -> x.waive(2, 1), x -> x.examine(2));
     }
 
     @Says(promise = 10, value = "it is scrapped")
@@ -149,17 +141,16 @@ public final class ExaminationTest {
     static void whatIsBoundIsNotExamined() {
         for (int part = 0; part <= 3; part++) {
             int examined = part;
-            check.refused("part " + part, Check.STATE, ExaminationTest::examinable, ExaminationTest::park,
+            check.refused("part " + part, Check.STATE, ExaminationTest::examinable, Build::parkOneOfEach,
                 x -> x.examine(examined));
         }
         check.refused("700 since, and some waived", Check.STATE, () -> bogiesBehind(700, 1000, 300),
             x -> {
                 x.waive(2, 7);
-                x.comes(0, 0);
-                x.night();
+                Build.park(x);
             },
             x -> x.examine(2));
-        WheelWorks x = Check.behind(ExaminationTest::examinable, ExaminationTest::park);
+        WheelWorks x = Check.behind(ExaminationTest::examinable, Build::parkOneOfEach);
         check.due("not in that train", x.examine(4), 0);
         x.out();
         for (int part = 0; part <= 3; part++) {
@@ -192,7 +183,7 @@ public final class ExaminationTest {
                 check.due("waived", x.ofPart(other, 5), other == part ? 3 + part : 0);
             }
         }
-        WheelWorks x = Check.behind(ExaminationTest::examinable, ExaminationTest::park);
+        WheelWorks x = Check.behind(ExaminationTest::examinable, Build::parkOneOfEach);
         x.waive(3, 5);
         check.due("bound", x.ofPart(3, 5), 5);
         x.scrap(4);

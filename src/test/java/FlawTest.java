@@ -22,17 +22,9 @@ public final class FlawTest {
         return x.flaw(3, 1);
     }
 
-    private static void park(WheelWorks x) {
-        x.fit(1, 0);
-        x.fit(2, 1);
-        x.fit(3, 2);
-        x.comes(0, 0);
-        x.night();
-    }
-
     /** Each part of a thin train on a road, 0 to 3, with a flaw of 20 in wheelset 3; motor 4 is in the store. */
     private static WheelWorks flawedOnRoad() {
-        return Check.behind(() -> flawed(20), FlawTest::park);
+        return Check.behind(() -> flawed(20), Build::parkOneOfEach);
     }
 
     // ---- promise 12: flaw
@@ -435,7 +427,7 @@ public final class FlawTest {
     @Says(promise = 14, value = "or bound")
     static void whatIsBoundIsNotCleared() {
         for (int part : new int[] {0, 1, 2, 3, 18}) {
-            check.refused("part " + part, Check.STATE, Build::broken, FlawTest::parkBroken, x -> x.clear(part));
+            check.refused("part " + part, Check.STATE, Build::broken, Build::park, x -> x.clear(part));
         }
         WheelWorks x = Build.broken();
         x.comes(0, 0);
@@ -443,11 +435,6 @@ public final class FlawTest {
         x.night();
         x.out();
         check.due("it is out", x.clear(3), 109);
-    }
-
-    private static void parkBroken(WheelWorks x) {
-        x.comes(0, 0);
-        x.night();
     }
 
     @Says(promise = 14, value = "Clears a part that is quarantined.")

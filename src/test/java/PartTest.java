@@ -148,7 +148,8 @@ public final class PartTest {
 
     @Says(promise = 3, value = "kind: TRAIN to MOTOR")
     static void eachKindHasItsOwnLimits() {
-        check.range("kind", WheelWorks.TRAIN, WheelWorks.MOTOR, PartTest::limited, (x, kind) -> x.limits(kind, 1, 2, 3));
+        check.range("kind", WheelWorks.TRAIN, WheelWorks.MOTOR, PartTest::limited,
+            (x, kind) -> x.limits(kind, 1, 2, 3));
         WheelWorks x = limited();
         for (int kind = WheelWorks.TRAIN; kind <= WheelWorks.MOTOR; kind++) {
             check.due("limit of kind " + kind, x.limits(kind, 0, 9, 0), 70 + kind);
@@ -238,8 +239,8 @@ public final class PartTest {
         check.refused("all", Check.ARGUMENT, PartTest::limited, x -> x.limits(-1, -1, -1, -1));
     }
 
-    @Says(promise = Says.TERMS, value = "Each kind has a limit of life in kilometres, an interval for examinations, and a"
-        + " window, in kilometres; 0 at first, by which there is no such limit, or no examinations.")
+    @Says(promise = Says.TERMS, value = "Each kind has a limit of life in kilometres, an interval for examinations,"
+        + " and a window, in kilometres; 0 at first, by which there is no such limit, or no examinations.")
     static void atFirstThereAreNoLimits() {
         WheelWorks x = Build.fullTrain();
         Build.ride(x, 0, 2000, 0);
@@ -270,8 +271,8 @@ public final class PartTest {
     }
 
     @Says(promise = 22, value = "0 its kind, 1 its melt, 2 its mod, 3 the kilometres of its life, 4 those since its"
-        + " latest examination, 5 what is waived, 6 whether it is quarantined, 7 whether it is recalled (1 or 0), 8 how"
-        + " many moves it had: into hosts, to the store, to be scrapped.")
+        + " latest examination, 5 what is waived, 6 whether it is quarantined, 7 whether it is recalled (1 or 0), 8"
+        + " how many moves it had: into hosts, to the store, to be scrapped.")
     static void allThatIsToldOfAPart() {
         int[] due = {4, 4, 0, 78, 8, 33, 1, 1, 1};
         int[] dueOfBogie = {2, 2, 0, 78, 78, 0, 0, 0, 1};

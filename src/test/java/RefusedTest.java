@@ -130,8 +130,8 @@ public final class RefusedTest {
         check.due("night", asked.call(Calls.NIGHT, 0, 0, 0, 0), unasked.call(Calls.NIGHT, 0, 0, 0, 0));
     }
 
-    @Says(promise = Says.TERMS, value = "If several exceptions apply, the one that is named first in the throws clause is"
-        + " thrown.")
+    @Says(promise = Says.TERMS, value = "If several exceptions apply, the one that is named first in the throws"
+        + " clause is thrown.")
     static void theFirstOfTheThrowsClause() {
         check.throwing("part", Check.ARGUMENT, () -> Build.sixty().part(5, 0, 0));
         check.throwing("fit, no such host", Check.INDEX, () -> night().fit(0, 27));

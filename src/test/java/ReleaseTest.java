@@ -18,12 +18,6 @@ public final class ReleaseTest {
         barred(what, x, 0, WheelWorks.NONE);
     }
 
-    private static WheelWorks released() {
-        WheelWorks x = Build.fullTrain();
-        x.release(0);
-        return x;
-    }
-
     /** A full train that has run so far, by runs of 2000 and what is left, in a season. */
     private static WheelWorks behind(int kilometres, int season) {
         WheelWorks x = Build.fullTrain();
@@ -59,7 +53,7 @@ public final class ReleaseTest {
 
     @Says(promise = 16, value = "Throws IndexOutOfBoundsException if there is no such part")
     static void noSuchTrainIsReleased() {
-        check.noSuchPart(ReleaseTest::released, WheelWorks::release);
+        check.noSuchPart(Build::released, WheelWorks::release);
         check.noSuchPart(WheelWorks::new, WheelWorks::release);
     }
 
@@ -67,7 +61,7 @@ public final class ReleaseTest {
     static void whatIsNoTrainIsNotReleased() {
         check.otherKinds("0", WheelWorks::release);
         for (int part : new int[] {1, 2, 3, 5}) {
-            check.refused("part " + part, Check.ARGUMENT, ReleaseTest::released, x -> x.release(part));
+            check.refused("part " + part, Check.ARGUMENT, Build::released, x -> x.release(part));
         }
     }
 
@@ -444,7 +438,7 @@ public final class ReleaseTest {
 
     @Says(promise = Says.TERMS, value = "A release is gone as it runs")
     static void goneAsItRuns() {
-        WheelWorks x = released();
+        WheelWorks x = Build.released();
         int other = Build.train(x, 0);
         x.release(other);
         x.run(0, 1, 0);
@@ -456,7 +450,7 @@ public final class ReleaseTest {
     @Says(promise = Says.TERMS, value = "as a part is fitted into its tree, taken from it")
     static void goneAsAPartIsTakenAndFitted() {
         for (int part = 1; part < Build.PARTS_OF_TRAIN; part++) {
-            WheelWorks x = released();
+            WheelWorks x = Build.released();
             int host = x.take(part);
             check.due(part + " is taken", x.isReleased(0), false);
             x.fit(part, host);
@@ -467,7 +461,7 @@ public final class ReleaseTest {
 
     @Says(promise = Says.TERMS, value = "as a part is fitted into its tree, taken from it")
     static void notByOtherTrees() {
-        WheelWorks x = released();
+        WheelWorks x = Build.released();
         int other = Build.train(x, 0);
         x.take(other + 18);
         x.fit(other + 18, other + 15);
@@ -481,7 +475,7 @@ public final class ReleaseTest {
     @Says(promise = Says.TERMS, value = "quarantined or recalled")
     static void goneAsAPartIsQuarantined() {
         for (int part : new int[] {3, 18}) {
-            WheelWorks x = released();
+            WheelWorks x = Build.released();
             x.flaw(part, 9);
             check.due("nothing is found", x.look(part, false), 0);
             check.due("with 9", x.isReleased(0), true);
@@ -493,7 +487,7 @@ public final class ReleaseTest {
             check.due("cleared", x.isReleased(0), false);
             check.due("released anew", x.release(0), 0);
         }
-        WheelWorks y = released();
+        WheelWorks y = Build.released();
         int spare = y.part(WheelWorks.MOTOR, 0, 0);
         y.flaw(spare, 10);
         y.look(spare, true);
@@ -507,11 +501,11 @@ public final class ReleaseTest {
     @Says(promise = Says.TERMS, value = "quarantined or recalled")
     static void goneAsAPartIsRecalled() {
         for (int melt = 0; melt <= 9; melt++) {
-            WheelWorks x = released();
+            WheelWorks x = Build.released();
             x.recall(melt);
             check.due("melt " + melt, x.isReleased(0), melt > WheelWorks.MOTOR);
         }
-        WheelWorks y = released();
+        WheelWorks y = Build.released();
         y.part(WheelWorks.MOTOR, 9, 0);
         check.due("one in the store", y.recall(9), 1);
         check.due("released", y.isReleased(0), true);
@@ -583,7 +577,7 @@ public final class ReleaseTest {
 
     @Says(promise = 27, value = "Throws IndexOutOfBoundsException if there is no such part")
     static void nothingBarsNoTrain() {
-        check.noSuchPart(ReleaseTest::released, WheelWorks::bars);
+        check.noSuchPart(Build::released, WheelWorks::bars);
         check.noSuchPart(WheelWorks::new, WheelWorks::bars);
     }
 
@@ -602,7 +596,7 @@ public final class ReleaseTest {
 
     @Says(promise = 28, value = "Throws IndexOutOfBoundsException if there is no such part")
     static void noTrainIsBarredByAny() {
-        check.noSuchPart(ReleaseTest::released, WheelWorks::barredBy);
+        check.noSuchPart(Build::released, WheelWorks::barredBy);
         check.noSuchPart(WheelWorks::new, WheelWorks::barredBy);
     }
 
@@ -624,7 +618,7 @@ public final class ReleaseTest {
 
     @Says(promise = 29, value = "Throws IndexOutOfBoundsException if there is no such part")
     static void noSuchTrainIsReleasedNow() {
-        check.noSuchPart(ReleaseTest::released, WheelWorks::isReleased);
+        check.noSuchPart(Build::released, WheelWorks::isReleased);
         check.noSuchPart(WheelWorks::new, WheelWorks::isReleased);
     }
 
@@ -632,7 +626,7 @@ public final class ReleaseTest {
     static void whatIsNoTrainIsNeverReleased() {
         check.otherKinds("0", WheelWorks::isReleased);
         for (int part : new int[] {1, 2, 3, 5}) {
-            check.refused("in a released train", Check.ARGUMENT, ReleaseTest::released, x -> x.isReleased(part));
+            check.refused("in a released train", Check.ARGUMENT, Build::released, x -> x.isReleased(part));
         }
     }
 }

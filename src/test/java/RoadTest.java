@@ -124,8 +124,8 @@ public final class RoadTest {
         check.due("one more", x.comes(x.part(WheelWorks.TRAIN, 0, 0), 51), 3);
     }
 
-    @Says(promise = Says.TERMS, value = "Trains that come in the evening wait in the order in which they come, at most 8,"
-        + " each with a time, 0 to 99, at which it goes out, all unlike.")
+    @Says(promise = Says.TERMS, value = "Trains that come in the evening wait in the order in which they come, at"
+        + " most 8, each with a time, 0 to 99, at which it goes out, all unlike.")
     static void timesOfThoseOnRoadsAreFree() {
         WheelWorks x = Build.evening(7, 8);
         x.part(WheelWorks.TRAIN, 0, 0);
@@ -231,8 +231,8 @@ public final class RoadTest {
         check.due("the fifth of five", z.road(1, 0), 4);
     }
 
-    @Says(promise = Says.TERMS, value = "In the night they are parked in that order, each on a road with room for it, in"
-        + " front of those on it.")
+    @Says(promise = Says.TERMS, value = "In the night they are parked in that order, each on a road with room for"
+        + " it, in front of those on it.")
     static void roomIsNeeded() {
         WheelWorks x = Build.evening(60, 50, 40, 30, 20, 10, 80, 90);
         check.due("planAnew, asked first", x.planAnew(), 1);
@@ -306,8 +306,8 @@ public final class RoadTest {
         }
     }
 
-    @Says(promise = Says.TERMS, value = "A train that goes out before one in front of it needs a move for each one that is in"
-        + " front of it then.")
+    @Says(promise = Says.TERMS, value = "A train that goes out before one in front of it needs a move for each one"
+        + " that is in front of it then.")
     static void thoseThatAreOutThenNeedNoMove() {
         WheelWorks x = parked(Build.evening(50, 40, 30, 20, 10, 9, 8, 7));
         for (int i = 0; i < 8; i++) {
@@ -348,8 +348,8 @@ public final class RoadTest {
         }
     }
 
-    @Says(promise = Says.TERMS, value = "Parts that are bound cannot be taken or fitted to, cannot run, and cannot be turned,"
-        + " examined, looked at or cleared.")
+    @Says(promise = Says.TERMS, value = "Parts that are bound cannot be taken or fitted to, cannot run, and cannot"
+        + " be turned, examined, looked at or cleared.")
     static void allElseCanBeDoneWithBoundParts() {
         WheelWorks x = Build.onRoad();
         check.due("gate", x.gate(3, 1), 301);
@@ -436,8 +436,8 @@ public final class RoadTest {
         }
     }
 
-    @Says(promise = Says.TERMS, value = "The plan is the roads by which the moves of all that go out, by their times, these"
-        + " alone, are the fewest")
+    @Says(promise = Says.TERMS, value = "The plan is the roads by which the moves of all that go out, by their"
+        + " times, these alone, are the fewest")
     static void allPlansAsByTheirWords() {
         Numbers numbers = new Numbers(7);
         for (int round = 0; round < 150; round++) {

@@ -6,12 +6,6 @@ public final class RunTest {
         check.runAll(RunTest.class);
     }
 
-    private static WheelWorks released() {
-        WheelWorks x = Build.fullTrain();
-        x.release(0);
-        return x;
-    }
-
     /** A full train that has run so far in one run. */
     private static WheelWorks behindRun(int kilometres, int season) {
         WheelWorks x = Build.fullTrain();
@@ -23,27 +17,27 @@ public final class RunTest {
 
     @Says(promise = 7, value = "kilometres: 1 to 2000")
     static void kilometresOfARun() {
-        check.range("kilometres", 1, 2000, RunTest::released, (x, kilometres) -> x.run(0, kilometres, 0));
+        check.range("kilometres", 1, 2000, Build::released, (x, kilometres) -> x.run(0, kilometres, 0));
         check.due("the fewest", behindRun(1, 0).ofPart(0, 3), 1);
         check.due("the most", behindRun(2000, 0).ofPart(0, 3), 2000);
     }
 
     @Says(promise = 7, value = "season: 0 to 3")
     static void seasonsOfARun() {
-        check.range("season", 0, 3, RunTest::released, (x, season) -> x.run(0, 1, season));
+        check.range("season", 0, 3, Build::released, (x, season) -> x.run(0, 1, season));
     }
 
     @Says(promise = 7, value = "Throws IndexOutOfBoundsException if there is no such part")
     static void noSuchTrainRuns() {
-        check.noSuchPart(RunTest::released, (x, train) -> x.run(train, 1, 0));
+        check.noSuchPart(Build::released, (x, train) -> x.run(train, 1, 0));
         check.noSuchPart(WheelWorks::new, (x, train) -> x.run(train, 1, 0));
-        check.refused("kilometres and season out of range", Check.INDEX, RunTest::released, x -> x.run(19, 0, 4));
+        check.refused("kilometres and season out of range", Check.INDEX, Build::released, x -> x.run(19, 0, 4));
     }
 
     @Says(promise = 7, value = "it is no train")
     static void whatIsNoTrainDoesNotRun() {
         for (int part : new int[] {1, 2, 3, 5}) {
-            check.refused("in a train that is released", Check.ARGUMENT, RunTest::released, x -> x.run(part, 1, 0));
+            check.refused("in a train that is released", Check.ARGUMENT, Build::released, x -> x.run(part, 1, 0));
             check.refused("on a road", Check.ARGUMENT, Build::onRoad, x -> x.run(part, 1, 0));
         }
         for (int part = 1; part <= 4; part++) {
@@ -68,10 +62,10 @@ public final class RunTest {
         check.refused("never", Check.STATE, Build::fullTrain, x -> x.run(0, 1, 0));
         check.refused("a train alone", Check.STATE, Build::oneOfEach, x -> x.run(0, 1, 0));
         check.refused("scrapped", Check.STATE, Build::scrapped, x -> x.run(0, 1, 0));
-        check.refused("it ran for that", Check.STATE, RunTest::released, x -> x.run(0, 1, 0), x -> x.run(0, 1, 0));
-        check.refused("a part was taken", Check.STATE, RunTest::released, x -> x.take(18), x -> x.run(0, 1, 0));
-        check.refused("it was recalled", Check.STATE, RunTest::released, x -> x.recall(0), x -> x.run(0, 1, 0));
-        check.refused("another one is", Check.STATE, RunTest::released, RunTest::addTrain, x -> x.run(19, 1, 0));
+        check.refused("it ran for that", Check.STATE, Build::released, x -> x.run(0, 1, 0), x -> x.run(0, 1, 0));
+        check.refused("a part was taken", Check.STATE, Build::released, x -> x.take(18), x -> x.run(0, 1, 0));
+        check.refused("it was recalled", Check.STATE, Build::released, x -> x.recall(0), x -> x.run(0, 1, 0));
+        check.refused("another one is", Check.STATE, Build::released, RunTest::addTrain, x -> x.run(19, 1, 0));
     }
 
     private static void addTrain(WheelWorks x) {
@@ -87,7 +81,7 @@ public final class RunTest {
 
     @Says(promise = Says.TERMS, value = "A train that is released can run, once for that")
     static void onceForARelease() {
-        WheelWorks x = released();
+        WheelWorks x = Build.released();
         check.due("released twice", x.release(0), 0);
         check.due("run", x.run(0, 1, 0), WheelWorks.NONE);
         check.due("released behind that", x.isReleased(0), false);
@@ -98,8 +92,8 @@ public final class RunTest {
         check.due("life", x.ofPart(0, 3), 3);
     }
 
-    @Says(promise = Says.TERMS, value = "A part has kilometres of its life, and such since its latest examination, or"
-        + " since it was new.")
+    @Says(promise = Says.TERMS, value = "A part has kilometres of its life, and such since its latest examination,"
+        + " or since it was new.")
     static void kilometresOfWhatIsNew() {
         WheelWorks x = Build.fullTrain();
         for (int part = 0; part < Build.PARTS_OF_TRAIN; part++) {
@@ -270,19 +264,21 @@ public final class RunTest {
         check.due("the last of 60", Build.sixty().lifeAnew(59), 0);
     }
 
-    @Says(promise = 24, value = "Returns the kilometres of a part's life, found by all that was fitted, taken and run.")
+    @Says(promise = 24, value = "Returns the kilometres of a part's life, found by all that was fitted, taken and"
+        + " run.")
     static void livesOfWhatNeverRan() {
         for (int part = 0; part <= 4; part++) {
             check.due("in the store", Build.oneOfEach().lifeAnew(part), 0);
             check.due("scrapped", Build.scrapped().lifeAnew(part), 0);
         }
         for (int part = 0; part < Build.PARTS_OF_TRAIN; part++) {
-            check.due("released", released().lifeAnew(part), 0);
+            check.due("released", Build.released().lifeAnew(part), 0);
             check.due("behind a run", behindRun(2000, 1).lifeAnew(part), 2000);
         }
     }
 
-    @Says(promise = 24, value = "Returns the kilometres of a part's life, found by all that was fitted, taken and run.")
+    @Says(promise = 24, value = "Returns the kilometres of a part's life, found by all that was fitted, taken and"
+        + " run.")
     static void livesOfWhatMoves() {
         WheelWorks x = behindRun(100, 0);
         x.take(2);
@@ -306,7 +302,8 @@ public final class RunTest {
         life(x, 4, 100);
     }
 
-    @Says(promise = 24, value = "Returns the kilometres of a part's life, found by all that was fitted, taken and run.")
+    @Says(promise = 24, value = "Returns the kilometres of a part's life, found by all that was fitted, taken and"
+        + " run.")
     static void livesInACoachThatGoesFromTrainToTrain() {
         WheelWorks x = Build.fullTrain();
         int other = Build.train(x, 0);
@@ -328,7 +325,8 @@ public final class RunTest {
         life(x, other, 24);
     }
 
-    @Says(promise = 24, value = "Returns the kilometres of a part's life, found by all that was fitted, taken and run.")
+    @Says(promise = 24, value = "Returns the kilometres of a part's life, found by all that was fitted, taken and"
+        + " run.")
     static void livesOfPart0() {
         WheelWorks x = new WheelWorks();
         int motor = x.part(WheelWorks.MOTOR, 0, 0);
@@ -351,7 +349,8 @@ public final class RunTest {
         life(x, motor, 20);
     }
 
-    @Says(promise = 24, value = "Returns the kilometres of a part's life, found by all that was fitted, taken and run.")
+    @Says(promise = 24, value = "Returns the kilometres of a part's life, found by all that was fitted, taken and"
+        + " run.")
     static void asManyRunsAsCallsGo() {
         WheelWorks x = new WheelWorks();
         int train = Build.train(x, 0);

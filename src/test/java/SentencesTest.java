@@ -57,7 +57,7 @@ public final class SentencesTest {
 
     private static String section(String document, int promise) {
         String head = promise == Says.TERMS ? "## Terms" : "## Promise " + promise + ":";
-        String next = promise == Says.TERMS ? "## Promise 1:" : promise == PROMISES ? "## Not" : "## Promise " + (promise + 1);
+        String next = promise == PROMISES ? "## Not promised" : "## Promise " + (promise + 1) + ":";
         int from = document.indexOf(head);
         int to = document.indexOf(next, Math.max(from, 0));
         return from < 0 || to < 0 ? "" : document.substring(from, to);

@@ -38,7 +38,7 @@ public final class TreeTest {
 
     private static WheelWorks thinTrainWaiting() {
         WheelWorks x = thinTrain();
-        x.comes(0, 7);
+        x.comes(0, 50);
         return x;
     }
 
@@ -56,8 +56,8 @@ public final class TreeTest {
 
     // ---- promise 4: fit
 
-    @Says(promise = Says.TERMS, value = "A TRAIN has places for 2 coaches, a COACH for 2 bogies, a BOGIE for 2 wheelsets"
-        + " and a motor.")
+    @Says(promise = Says.TERMS, value = "A TRAIN has places for 2 coaches, a COACH for 2 bogies, a BOGIE for 2"
+        + " wheelsets and a motor.")
     static void placesOfEachKind() {
         for (int host = WheelWorks.TRAIN; host <= WheelWorks.MOTOR; host++) {
             for (int kind = WheelWorks.TRAIN; kind <= WheelWorks.MOTOR; kind++) {

@@ -23,8 +23,8 @@ public final class WheelTest {
 
     // ---- promise 8: turn
 
-    @Says(promise = Says.TERMS, value = "of each the diameter becomes twice as much less as its flange is below 300, and"
-        + " the flange is 300")
+    @Says(promise = Says.TERMS, value = "of each the diameter becomes twice as much less as its flange is below 300,"
+        + " and the flange is 300")
     static void diametersForFlanges() {
         WheelWorks x = worn();
         check.due("flange", x.wheel(3, 1), 270);
@@ -38,8 +38,8 @@ public final class WheelTest {
         check.due("and flange", x.wheel(7, 1), 270);
     }
 
-    @Says(promise = Says.TERMS, value = "of each the diameter becomes twice as much less as its flange is below 300, and"
-        + " the flange is 300")
+    @Says(promise = Says.TERMS, value = "of each the diameter becomes twice as much less as its flange is below 300,"
+        + " and the flange is 300")
     static void nothingIsBelow300() {
         WheelWorks x = bogieAndSpare();
         check.due("new ones", x.turn(0), 0);
@@ -149,18 +149,13 @@ public final class WheelTest {
     @Says(promise = 8, value = "or is bound")
     static void aBogieOfATrainOnARoadIsNotTurned() {
         check.refused("on a road", Check.STATE, Build::onRoad, x -> x.turn(2));
-        check.refused("worn, on a road", Check.STATE, WheelTest::worn, WheelTest::park, x -> x.turn(15));
+        check.refused("worn, on a road", Check.STATE, WheelTest::worn, Build::park, x -> x.turn(15));
         check.due("it waits", Build.waiting().turn(2), 0);
         check.due("it is out", Build.outAgain().turn(2), 0);
         WheelWorks x = worn();
         x.take(15);
-        park(x);
+        Build.park(x);
         check.due("not in that train", x.turn(15), 120);
-    }
-
-    private static void park(WheelWorks x) {
-        x.comes(0, 0);
-        x.night();
     }
 
     // ---- promise 9: gate
@@ -181,8 +176,8 @@ public final class WheelTest {
         check.due("the flange is as it was", x.wheel(3, 1), 270);
     }
 
-    @Says(promise = Says.TERMS, value = "The gate tells a wheelset's flange with an error, -5 to 5, and keeps that until it"
-        + " tells the next one")
+    @Says(promise = Says.TERMS, value = "The gate tells a wheelset's flange with an error, -5 to 5, and keeps that"
+        + " until it tells the next one")
     static void keptUntilTheNextOne() {
         WheelWorks x = Build.fullTrain();
         x.gate(3, 5);
@@ -218,7 +213,7 @@ public final class WheelTest {
     static void whatIsNoWheelsetIsNotMeasured() {
         check.otherKinds("3", (x, part) -> x.gate(part, 0));
         check.refused("error out of range", Check.ARGUMENT, WheelTest::worn, x -> x.gate(3, 6));
-        check.refused("the first error is kept", Check.ARGUMENT, WheelTest::worn, x -> x.gate(3, 1), x -> x.gate(3, -6));
+        check.refused("the first one is kept", Check.ARGUMENT, WheelTest::worn, x -> x.gate(3, 1), x -> x.gate(3, -6));
     }
 
     // ---- promise 25: wheel
@@ -228,7 +223,8 @@ public final class WheelTest {
         check.range("what", 0, 2, WheelTest::worn, (x, what) -> x.wheel(3, what));
     }
 
-    @Says(promise = 25, value = "0 its diameter, 1 its flange, 2 the flange as the gate told it the latest, NONE without.")
+    @Says(promise = 25, value = "0 its diameter, 1 its flange, 2 the flange as the gate told it the latest, NONE"
+        + " without.")
     static void allThatIsToldOfAWheelset() {
         WheelWorks x = worn();
         x.gate(3, 3);
