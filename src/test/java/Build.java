@@ -112,7 +112,7 @@ final class Build {
         works.night();
     }
 
-    /** Of one of each kind, fits the wheelset into the bogie, that into the coach, that into the train, and parks it. */
+    /** Of one of each kind, fits the wheelset into the bogie, and so on up to the train, which it parks. */
     static void parkOneOfEach(WheelWorks works) {
         works.fit(1, 0);
         works.fit(2, 1);
