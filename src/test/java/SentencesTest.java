@@ -8,7 +8,7 @@ import java.util.List;
 
 /**
  * Each sentence that a test is for stands in the document, and each range, each throws clause and each sentence of
- * the terms has a test of its own. The document is the file that the first argument names.
+ * the terms has a test of its own. The second argument names the directory that has the document.
  */
 public final class SentencesTest {
     private static final Class<?>[] TESTS = {PartTest.class, TreeTest.class, RunTest.class, WheelTest.class,
@@ -18,11 +18,10 @@ public final class SentencesTest {
     private static final Check check = new Check();
 
     public static void main(String[] args) throws IOException {
-        if (args.length == 0 || !Files.exists(Path.of(args[0]))) {
-            System.out.println("no document to compare the tests with");
-            return;
+        if (args.length < 2) {
+            throw new IllegalArgumentException("the arguments are to name the project's directory and the shared one");
         }
-        String document = plain(Files.readString(Path.of(args[0]), StandardCharsets.UTF_8));
+        String document = plain(Files.readString(Path.of(args[1], "DOC.md"), StandardCharsets.UTF_8));
         List<Says> said = said();
         for (Says one : said) {
             check.due("stands in the document: " + one, section(document, one.promise()).contains(one.value()), true);
